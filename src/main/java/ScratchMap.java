@@ -48,7 +48,7 @@ public final class ScratchMap {
 
     // ---- blocks
 
-    public int write(int block, int value) {
+    public int write(int block, int value) throws IndexOutOfBoundsException, IllegalArgumentException, IllegalStateException {
         if (!isBlock(block)) {
             throw new IndexOutOfBoundsException("no such block");
         }
@@ -64,7 +64,7 @@ public final class ScratchMap {
         return target;
     }
 
-    public int fill(int first, int many, int value) {
+    public int fill(int first, int many, int value) throws IndexOutOfBoundsException, IllegalArgumentException {
         // many is taken from the other side, so that no sum runs over
         if (!isBlock(first) || many > BLOCKS - first) {
             throw new IndexOutOfBoundsException("no such blocks");
@@ -83,7 +83,7 @@ public final class ScratchMap {
         return many;
     }
 
-    public int drop(int block) {
+    public int drop(int block) throws IndexOutOfBoundsException {
         if (!isBlock(block)) {
             throw new IndexOutOfBoundsException("no such block");
         }
@@ -95,7 +95,7 @@ public final class ScratchMap {
 
     // ---- spots
 
-    public int fail(int track, int sector) {
+    public int fail(int track, int sector) throws IllegalArgumentException, IllegalStateException {
         if (!inDrive(track, sector)) {
             throw new IllegalArgumentException("no such cell");
         }
@@ -109,7 +109,7 @@ public final class ScratchMap {
         return map.lineCount;
     }
 
-    public int heal(int track, int sector) {
+    public int heal(int track, int sector) throws IllegalArgumentException, IllegalStateException {
         if (!inDrive(track, sector)) {
             throw new IllegalArgumentException("no such cell");
         }
@@ -123,7 +123,7 @@ public final class ScratchMap {
         return map.lineCount;
     }
 
-    public int tidy(int moves) {
+    public int tidy(int moves) throws IllegalArgumentException {
         if (moves < 1 || moves > MOST_MOVES) {
             throw new IllegalArgumentException("moves is not 1 to 99");
         }
@@ -131,7 +131,7 @@ public final class ScratchMap {
         return tidyUp(now, map, moves);
     }
 
-    public int set(int setting, int value) {
+    public int set(int setting, int value) throws IndexOutOfBoundsException, IllegalArgumentException {
         if (!isSetting(setting)) {
             throw new IndexOutOfBoundsException("no such setting");
         }
@@ -147,7 +147,7 @@ public final class ScratchMap {
 
     // ---- texts
 
-    public int append(int code) {
+    public int append(int code) throws IllegalArgumentException, IllegalStateException {
         if (!InputText.isCode(code)) {
             throw new IllegalArgumentException("code is not 33 to 126");
         }
@@ -168,7 +168,7 @@ public final class ScratchMap {
         return text.scan();
     }
 
-    public int read() {
+    public int read() throws IllegalArgumentException {
         if (!text.tellsSpots()) {
             throw new IllegalArgumentException("the buffer does not tell spots");
         }
@@ -182,7 +182,7 @@ public final class ScratchMap {
         return done;
     }
 
-    public int undo() {
+    public int undo() throws IllegalStateException {
         int last = savedStates - 1;
         if (last < 0 || last >= saved.length || saved[last] == null) {
             throw new IllegalStateException("no saved state");
@@ -195,7 +195,7 @@ public final class ScratchMap {
 
     // ---- looks; nothing is changed
 
-    public int cell(int track, int sector, int what) {
+    public int cell(int track, int sector, int what) throws IllegalArgumentException {
         if (!inDrive(track, sector) || what < 0 || what >= CELL_PROPERTIES) {
             throw new IllegalArgumentException("an argument is out of range");
         }
@@ -212,7 +212,7 @@ public final class ScratchMap {
         }
     }
 
-    public int block(int block, int what) {
+    public int block(int block, int what) throws IndexOutOfBoundsException, IllegalArgumentException {
         if (!isBlock(block)) {
             throw new IndexOutOfBoundsException("no such block");
         }
@@ -231,7 +231,7 @@ public final class ScratchMap {
         }
     }
 
-    public int line(int line, int what) {
+    public int line(int line, int what) throws IndexOutOfBoundsException, IllegalArgumentException {
         Line found = map.lineAt(line);
         if (found == null) {
             throw new IndexOutOfBoundsException("no such line");
@@ -242,14 +242,14 @@ public final class ScratchMap {
         return lineProperty(found, what);
     }
 
-    public int count(int what) {
+    public int count(int what) throws IllegalArgumentException {
         if (what < 0 || what >= COUNTS) {
             throw new IllegalArgumentException("what is not 0 to 9");
         }
         return numberOf(what);
     }
 
-    public int setting(int setting) {
+    public int setting(int setting) throws IndexOutOfBoundsException {
         if (!isSetting(setting)) {
             throw new IndexOutOfBoundsException("no such setting");
         }
@@ -258,7 +258,7 @@ public final class ScratchMap {
 
     // ---- what would be; nothing is changed
 
-    public int ifFailed(int track, int sector, int what) {
+    public int ifFailed(int track, int sector, int what) throws IllegalArgumentException {
         if (!inDrive(track, sector) || what < 0 || what >= FORECASTS) {
             throw new IllegalArgumentException("an argument is out of range");
         }
@@ -281,7 +281,7 @@ public final class ScratchMap {
         return tidyUp(trial, map, BLOCKS);
     }
 
-    public int find(int value) {
+    public int find(int value) throws IllegalArgumentException {
         if (!isValue(value)) {
             throw new IllegalArgumentException("value is not 0 to 999");
         }
