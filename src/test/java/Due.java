@@ -8,15 +8,25 @@ final class Due {
 
     private static int checks = 0;
     private static int wrong = 0;
+    private static String heading = "";
 
     private Due() {
+    }
+
+    /** What is printed ahead of each wrong answer from now on. */
+    static void under(String words) {
+        heading = words;
+    }
+
+    static int checks() {
+        return checks;
     }
 
     static void is(String call, Object got, Object want) {
         checks++;
         if (!Objects.equals(got, want)) {
             wrong++;
-            System.out.println(call + " answered " + got + ", due is " + want);
+            System.out.println(heading + call + " answered " + got + ", due is " + want);
         }
     }
 
