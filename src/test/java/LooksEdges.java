@@ -308,6 +308,8 @@ final class LooksEdges {
         Due.is("lines", x.count(1), 11);
         Due.is("line(0, 0), the first", x.line(0, 0), 0b111);
         Due.is("line(10, 0), the last", x.line(10, 0), 0b111000000000);
+        Due.is("line(16, 1), the last of many", Due.outcome(() -> Scenes.withManyLines().line(16, 1)), 3);
+        Edges.refuses(Scenes::withManyLines, Edges.INDEX, "line(17, 0)", y -> y.line(17, 0));
         Edges.refuses(Scenes::jammed, Edges.INDEX, "line(11, 0)", y -> y.line(11, 0));
         Edges.refuses(Scenes::jammed, Edges.INDEX, "line(-1, 0)", y -> y.line(-1, 0));
     }
@@ -443,6 +445,7 @@ final class LooksEdges {
         counts(1, 1, Scenes.withSpots(0, 0, 0, 1, 0, 2));
         counts(1, 1, Scenes.withSpots(0, 0, 0, 1, 0, 2, 0, 3));
         counts(1, 11, Scenes.jammed());
+        counts(1, 17, Scenes.withManyLines());
     }
 
     private static void countAvoided() {

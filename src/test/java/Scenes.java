@@ -58,6 +58,13 @@ final class Scenes {
         return x;
     }
 
+    /** 12 spots that make 17 lines; more were not found, by a long search. */
+    static ScratchMap withManyLines() {
+        ScratchMap x = withSpots(4, 5, 0, 5, 6, 3, 3, 4, 4, 3, 0, 7, 3, 5, 6, 7, 0, 3, 4, 7, 6, 5, 3, 6);
+        x.set(1, 8);
+        return x;
+    }
+
     /** So that there is no room after an undo() either. */
     static ScratchMap withoutRoomForLong() {
         ScratchMap x = withoutRoom();

@@ -299,6 +299,11 @@ final class TextsEdges {
             Due.is("cell(2, 2, 0)", x.cell(2, 2, 0), 0);
             Due.is("clearBuffer()", x.clearBuffer(), 0);
         }
+        ScratchMap z = Scenes.withSpots(0, 0);
+        Scenes.type(z, "0,0;1,1");
+        Due.is("read() whose first one is refused", z.read(), 0);
+        Due.is("cell(1, 1, 0)", z.cell(1, 1, 0), 0);
+        Due.is("clearBuffer() after it", z.clearBuffer(), 0);
         ScratchMap y = Scenes.jammed();
         y.heal(20, 0);
         Scenes.type(y, "0,0;1,1;-0,0");

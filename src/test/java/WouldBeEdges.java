@@ -200,6 +200,9 @@ final class WouldBeEdges {
         ScratchMap y = Scenes.withSpots(5, 5, 5, 6, 5, 8, 6, 7, 8, 7, 7, 7, 7, 9, 8, 10, 6, 8);
         Due.is("a cell of three lines", y.cell(5, 7, 2), 3);
         Due.is("is the worst", y.worst(), 127);
+        ScratchMap z = Scenes.withSpots(5, 5, 5, 6, 5, 7, 6, 5, 6, 6, 6, 7, 7, 5, 7, 6, 7, 7);
+        Due.is("a spot of four lines", z.cell(6, 6, 2), 4);
+        Due.is("is not the worst, as it is not avoided", z.worst(), 75);
     }
 
     private static void worstIsTheLowest() {
