@@ -271,6 +271,7 @@ final class TextsEdges {
         s.hold(12, "Lets the spots in the buffer fail, or makes them good, as fail() and heal() do, one after the other,", TextsEdges::readsOneAfterTheOther);
         s.hold(12, "up to the first one whose method would throw an exception, and clears the buffer.", TextsEdges::readsUpToTheFirstRefused);
         s.hold(12, "Undoable, as one call, also if none is done.", TextsEdges::readIsUndoable);
+        s.hold(12, "Undoable, as one call, also if none is done.", TextsEdges::readIsUndoableWithoutRoom);
         s.hold(12, "Returns how many are done.", TextsEdges::readReturns);
         s.hold(12, "Throws `IllegalArgumentException` if the buffer does not tell spots as a text", TextsEdges::readNoSpots);
     }
@@ -325,6 +326,23 @@ final class TextsEdges {
             Due.is("read() of " + text, x.read(), done[i]);
             Due.is("saved states", x.count(9), 2);
             Edges.undoable(() -> Scenes.withText(text), "read() of " + text, ScratchMap::read);
+        }
+    }
+
+    /** The 12 spots come by one call, so that there is room among the saved states for the next. */
+    private static void readIsUndoableWithoutRoom() {
+        String[] texts = {"5,5", "0,0", "-5,5", "5,5;-0,0", "-0,0;0,0", "-0,0;5,5;6,6"};
+        int[] done = {0, 0, 0, 0, 2, 2};
+        for (int i = 0; i < texts.length; i++) {
+            ScratchMap x = with("0,0;0,1;0,2;0,3;0,4;0,5;0,6;0,7;0,8;0,9;1,0;1,1");
+            x.read();
+            String before = Picture.withoutSavedStates(x);
+            Scenes.type(x, texts[i]);
+            Due.is("read() of " + texts[i], x.read(), done[i]);
+            Due.is("clearBuffer()", x.clearBuffer(), 0);
+            Due.is("saved states after " + texts[i], x.count(9), 2);
+            Due.is("undo() of " + texts[i], Due.outcome(x::undo), 1);
+            Due.is("all but the saved states after undo()", Picture.withoutSavedStates(x), before);
         }
     }
 
