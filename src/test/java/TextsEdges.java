@@ -336,13 +336,13 @@ final class TextsEdges {
         for (int i = 0; i < texts.length; i++) {
             ScratchMap x = with("0,0;0,1;0,2;0,3;0,4;0,5;0,6;0,7;0,8;0,9;1,0;1,1");
             x.read();
-            String before = Picture.withoutSavedStates(x);
+            long before = x.digest();
             Scenes.type(x, texts[i]);
             Due.is("read() of " + texts[i], x.read(), done[i]);
             Due.is("clearBuffer()", x.clearBuffer(), 0);
             Due.is("saved states after " + texts[i], x.count(9), 2);
             Due.is("undo() of " + texts[i], Due.outcome(x::undo), 1);
-            Due.is("all but the saved states after undo()", Picture.withoutSavedStates(x), before);
+            Due.is("digest() after undo() of " + texts[i], x.digest(), before);
         }
     }
 
